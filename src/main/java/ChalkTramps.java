@@ -441,7 +441,7 @@ public final class ChalkTramps {
         }
     }
 
-    // ---- small tests of numbers, and fractions
+    // ---- what several of the classes inside need
 
     private static boolean isPlace(int place) {
         return place >= 0 && place < PLACES;
@@ -457,6 +457,18 @@ public final class ChalkTramps {
 
     private static boolean isFirstOrSecond(int what) {
         return what == 0 || what == 1;
+    }
+
+    /** How many layers one of a kind takes in a night at most. */
+    private static int appetiteOf(int kind) {
+        switch (kind) {
+            case QUICK:
+                return 2;
+            case CHALKY:
+                return LAYERS;
+            default:
+                return 1;
+        }
     }
 
     /** What stands above or below in the fraction's least terms; below is 1 or more. */
@@ -884,18 +896,6 @@ public final class ChalkTramps {
             }
             bathe(tramp);
             return true;
-        }
-    }
-
-    /** How many layers one of a kind takes in a night at most. */
-    private static int appetiteOf(int kind) {
-        switch (kind) {
-            case QUICK:
-                return 2;
-            case CHALKY:
-                return LAYERS;
-            default:
-                return 1;
         }
     }
 
