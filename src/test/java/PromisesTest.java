@@ -1,56 +1,16 @@
 /** Promise by promise: ordinary inputs, the edges that the document names, wrong inputs. Answers are worked out by hand. */
-public final class PromisesTest {
-    private static final int UNKNOWN = -1, OUTSIDE = -2, STATE = -3, FULL = -4, NONE = -9;
-    private static final int LEAST = Integer.MIN_VALUE, MOST = Integer.MAX_VALUE;
-    private static int wrong = 0;
-    private static int promise = 0;
-
-    private static void due(String what, long got, long want) {
-        if (got != want) {
-            wrong++;
-            System.out.println("promise " + promise + ": " + what + " answered " + got + ", due is " + want);
-        }
-    }
-
-    private static void text(ChalkTramps x, String text) {
-        x.wipe();
-        for (int i = 0; i < text.length(); i++) x.write(text.charAt(i));
-    }
-
-    private static ChalkTramps on(String hill) {
-        ChalkTramps x = new ChalkTramps();
-        text(x, hill);
-        if (x.hill() < 0) due("hill of " + hill, x.fault(), NONE);
-        return x;
-    }
-
-    private static void nights(ChalkTramps x, int n) {
-        for (int i = 0; i < n; i++) x.night();
-    }
-
-    /** All that can be seen of an object, to tell whether a refused call changed something. */
-    private static String seen(ChalkTramps x) {
-        StringBuilder all = new StringBuilder();
-        for (int what = 0; what < 10; what++) all.append(x.count(what)).append(' ');
-        for (int i = 0; i < 4; i++) {
-            for (int what = 0; what < 7; what++) all.append(x.kiln(i, what)).append(' ').append(x.tramp(i, what)).append(' ');
-        }
-        long seed = x.seed(0);
-        x.seed(seed);
-        return all.append(seed).append(' ').append(x.fault()).append(' ').append(x.lay(0)).toString();
-    }
-
+public final class PromisesTest extends Checks {
     private static void faultOf(String text, int want) {
         ChalkTramps x = new ChalkTramps();
         text(x, text);
         due("fault of '" + text + "'", x.fault(), want);
         String before = seen(x);
         due("hill of '" + text + "'", x.hill() < 0 ? STATE : 0, want == NONE ? 0 : STATE);
-        if (want != NONE) due("a refused hill changes nothing", seen(x).equals(before) ? 1 : 0, 1);
+        if (want != NONE) due("a refused hill changes nothing", seen(x).equals(before));
     }
 
     private static void newObject() {
-        promise = 1;
+        about("promise 1");
         ChalkTramps x = new ChalkTramps();
         for (int what = 0; what < 10; what++) due("count(" + what + ")", x.count(what), 0);
         due("seed", x.seed(1), 0);
@@ -59,7 +19,7 @@ public final class PromisesTest {
     }
 
     private static void writing() {
-        promise = 2;
+        about("promise 2");
         ChalkTramps x = new ChalkTramps();
         due("write(-1)", x.write(-1), OUTSIDE);
         due("write(256)", x.write(256), OUTSIDE);
@@ -70,7 +30,7 @@ public final class PromisesTest {
         due("write(75) at 48", x.write(75), FULL);
         due("write(256) at 48", x.write(256), OUTSIDE);
         due("count(0)", x.count(0), 48);
-        promise = 3;
+        about("promise 3");
         due("wipe()", x.wipe(), 48);
         due("wipe()", x.wipe(), 0);
         due("count(0)", x.count(0), 0);
@@ -79,7 +39,7 @@ public final class PromisesTest {
     }
 
     private static void faults() {
-        promise = 4;
+        about("promise 4");
         faultOf("", 0);
         faultOf("k", 0);
         faultOf("K", NONE);
@@ -116,7 +76,7 @@ public final class PromisesTest {
     }
 
     private static void hills() {
-        promise = 5;
+        about("promise 5");
         ChalkTramps x = on("KG2abcI20I31");
         due("kilns and tramps", 10 * x.count(1) + x.count(2), 12);
         x.knew(1, 1);
@@ -149,12 +109,12 @@ public final class PromisesTest {
         x.write('Z');
         String before = seen(x);
         due("hill() of a fault", x.hill(), STATE);
-        due("it changed nothing", seen(x).equals(before) ? 1 : 0, 1);
+        due("it changed nothing", seen(x).equals(before));
     }
 
     private static void looking() {
         ChalkTramps x = on("KG7fbdaG0cI70I33I72");
-        promise = 6;
+        about("promise 6");
         due("place", x.kiln(0, 0), 7);
         due("how many", x.kiln(0, 1), 4);
         due("bits", x.kiln(0, 2), 43);
@@ -167,7 +127,7 @@ public final class PromisesTest {
         due("kiln -1", x.kiln(-1, 0), UNKNOWN);
         due("what 5", x.kiln(0, 5), OUTSIDE);
         due("what -1", x.kiln(0, -1), OUTSIDE);
-        promise = 7;
+        about("promise 7");
         x.night();
         x.walk(2, 6);
         due("place", x.tramp(2, 0), 6);
@@ -192,7 +152,7 @@ public final class PromisesTest {
         due("white by 9 at most", x.tramp(0, 3), 9);
         due("speed of a hummock", x.tramp(0, 4), 0);
         due("a hummock", x.tramp(0, 6), 1);
-        promise = 8;
+        about("promise 8");
         due("at(7)", x.at(7), 0);
         due("at(0)", x.at(0), 1);
         due("at(1)", x.at(1), NONE);
@@ -202,7 +162,7 @@ public final class PromisesTest {
     }
 
     private static void nightsPassed() {
-        promise = 9;
+        about("promise 9");
         ChalkTramps x = on("KG2fabcI20I21I22I23");
         due("night()", x.night(), 0);
         due("plain", x.tramp(0, 2), 32);
@@ -259,7 +219,7 @@ public final class PromisesTest {
 
     /** A teller that becomes a hummock when it lies up hears nothing more in that night. */
     private static void lastNightOfTeller() {
-        promise = 9;
+        about("promise 9");
         ChalkTramps x = on("KG2aG5bcdeI23I52");
         nights(x, 4);
         x.wash(1);
@@ -276,7 +236,7 @@ public final class PromisesTest {
     }
 
     private static void walking() {
-        promise = 10;
+        about("promise 10");
         ChalkTramps x = on("KG2abcdI50I20I21I90");
         due("too far", x.walk(0, 1), STATE);
         due("is there", x.walk(0, 5), STATE);
@@ -304,7 +264,7 @@ public final class PromisesTest {
     }
 
     private static void telling() {
-        promise = 11;
+        about("promise 11");
         ChalkTramps x = on("KG2abcdI22I21I20I30");
         x.night();
         due("chalky to plain", x.tell(0, 2), 4);
@@ -325,7 +285,7 @@ public final class PromisesTest {
     }
 
     private static void washing() {
-        promise = 12;
+        about("promise 12");
         ChalkTramps x = on("KG2abcdI22I31");
         x.night();
         x.walk(0, 3);
@@ -345,7 +305,7 @@ public final class PromisesTest {
     }
 
     private static void undoing() {
-        promise = 13;
+        about("promise 13");
         ChalkTramps x = on("KG2abcdI22I51");
         due("none", x.undo(), STATE);
         x.walk(1, 2);
@@ -377,7 +337,7 @@ public final class PromisesTest {
     }
 
     private static void nightsToCome() {
-        promise = 14;
+        about("promise 14");
         ChalkTramps x = on("KG2abcdG8eI20I53I82");
         String before = seen(x);
         due("in 0 nights", x.later(0, 0, 0), 0);
@@ -393,19 +353,19 @@ public final class PromisesTest {
         due("n -1", x.later(0, -1, 0), OUTSIDE);
         due("what 2", x.later(0, 0, 2), OUTSIDE);
         due("what -1", x.later(0, 0, -1), OUTSIDE);
-        promise = 15;
+        about("promise 15");
         due("plain", x.hummock(0), 9);
         due("no kiln", x.hummock(1), NONE);
         due("chalky", x.hummock(2), 5);
         due("no such", x.hummock(3), UNKNOWN);
         due("no such", x.hummock(-1), UNKNOWN);
-        due("nothing changed", seen(x).equals(before) ? 1 : 0, 1);
+        due("nothing changed", seen(x).equals(before));
         nights(x, 9);
         due("it is one", x.hummock(0), 0);
     }
 
     private static void fewestNights() {
-        promise = 16;
+        about("promise 16");
         ChalkTramps x = on("KG1abG4cI20I52I93");
         String before = seen(x);
         due("nothing", x.soon(0, 0, 0), 0);
@@ -427,7 +387,7 @@ public final class PromisesTest {
         due("layers 64", x.soon(0, 64, 0), OUTSIDE);
         due("layers -1", x.soon(0, -1, 0), OUTSIDE);
         due("what 2", x.soon(0, 0, 2), OUTSIDE);
-        due("nothing changed", seen(x).equals(before) ? 1 : 0, 1);
+        due("nothing changed", seen(x).equals(before));
         x.walk(0, 3);
         due("has walked: it stays in the first night", x.soon(0, 1, 1), 31);
         due("a figure 0 in front", on("KG0aG2bI20").soon(0, 3, 1), 2);
@@ -441,7 +401,7 @@ public final class PromisesTest {
     }
 
     private static void land() {
-        promise = 17;
+        about("promise 17");
         due("no layers", on("KI20").beneath(0), 1);
         due("no layers", on("KI20").beneath(1), 0);
         due("one order", on("KG0fa").beneath(0), 1);
@@ -460,7 +420,7 @@ public final class PromisesTest {
     }
 
     private static void judging() {
-        promise = 18;
+        about("promise 18");
         ChalkTramps x = on("KG2abcI20I51I23");
         String before = seen(x);
         due("a night", x.judge(1, 0), NONE);
@@ -495,7 +455,7 @@ public final class PromisesTest {
         due("walks, a night, told, knows", x.judge(4, 112000201412L), NONE);
         due("what is told is not unlearned, nor learned by telling", x.judge(4, 112000201402L), 3);
         due("a bath forgets", x.judge(4, 401300401L), 3);
-        due("nothing changed", seen(x).equals(before) ? 1 : 0, 1);
+        due("nothing changed", seen(x).equals(before));
         due("n 0", x.judge(0, 0), OUTSIDE);
         due("n 5", x.judge(5, 0), OUTSIDE);
         due("n least", x.judge(LEAST, 0), OUTSIDE);
@@ -512,13 +472,13 @@ public final class PromisesTest {
     }
 
     private static void stranger() {
-        promise = 19;
+        about("promise 19");
         ChalkTramps x = on("KG3abcdG5ba");
         due("layer 0", x.knew(0, 1), OUTSIDE);
         due("layer 7", x.knew(7, 1), OUTSIDE);
         due("knew 2", x.knew(1, 2), OUTSIDE);
         due("knew -1", x.knew(1, -1), OUTSIDE);
-        promise = 21;
+        about("promise 21");
         due("8 for each", x.lay(0), 16);
         due("the first: plain, kiln 0, no night", x.lay(1), 0);
         due("what 2", x.lay(2), OUTSIDE);
@@ -532,28 +492,28 @@ public final class PromisesTest {
         due("knew(1, 1), too", x.knew(1, 1), 3);
         due("never", x.lay(0), 0);
         due("never", x.lay(1), NONE);
-        promise = 20;
+        about("promise 20");
         due("unknew()", x.unknew(), 3);
         due("unknew()", x.unknew(), 0);
         due("8 for each", x.lay(0), 16);
-        promise = 21;
+        about("promise 21");
         x.knew(4, 1);
         due("quick 102, 103: plain ones know three at most", x.lay(0), 2);
         due("102", x.lay(1), 102);
         x.knew(3, 1);
         due("102", x.lay(1), 102);
-        promise = 19;
+        about("promise 19");
         for (int i = 3; i <= 6; i++) due("knew(3, 1)", x.knew(3, 1), i);
         due("the seventh", x.knew(3, 1), FULL);
         due("the seventh, layer 9", x.knew(9, 1), OUTSIDE);
         due("count(9)", x.count(9), 6);
-        promise = 21;
+        about("promise 21");
         due("no kilns", new ChalkTramps().lay(0), 0);
         due("no kilns", new ChalkTramps().lay(1), NONE);
     }
 
     private static void shares() {
-        promise = 22;
+        about("promise 22");
         ChalkTramps x = on("KG2abcdI20I21I22I90");
         due("nothing known, above", x.share(0, true), 0);
         due("nothing known, below", x.share(0, false), 1);
@@ -575,7 +535,7 @@ public final class PromisesTest {
     }
 
     private static void resting() {
-        promise = 23;
+        about("promise 23");
         // Plain at 2 and quick at 3: the one gets 2 wherever it is, the other 4 at kiln 0 or 2 at kiln 1; 3 less together.
         ChalkTramps x = on("KG2abG4cI20I31");
         String before = seen(x);
@@ -594,7 +554,7 @@ public final class PromisesTest {
         due("no such", x.rests(0, 2, 0), UNKNOWN);
         due("no such", x.rests(-1, 0, 0), UNKNOWN);
         due("no such, both one", x.rests(2, 2, 9), UNKNOWN);
-        due("nothing changed", seen(x).equals(before) ? 1 : 0, 1);
+        due("nothing changed", seen(x).equals(before));
         // The teller is better off beside the quick one, who knows three, and the quick one away from the teller.
         ChalkTramps y = on("KG4bG2dfcI33I21");
         due("at first there are some", y.rests(0, 1, 1) >= 0 ? 1 : 0, 1);
@@ -604,7 +564,7 @@ public final class PromisesTest {
     }
 
     private static void chances() {
-        promise = 24;
+        about("promise 24");
         ChalkTramps x = on("KG2abG5cI21I23I50");
         String before = seen(x);
         due("2 or more, 3 of 10 cold: 7/10", x.cold(0, 2, 3, true), 7);
@@ -626,18 +586,18 @@ public final class PromisesTest {
         due("m -1", x.cold(0, -1, 0, false), OUTSIDE);
         due("x 11", x.cold(0, 0, 11, true), OUTSIDE);
         due("x -1", x.cold(0, 0, -1, true), OUTSIDE);
-        due("nothing changed", seen(x).equals(before) ? 1 : 0, 1);
+        due("nothing changed", seen(x).equals(before));
         due("no kilns", on("KI20").cold(0, 0, 3, true), 1);
         due("no kilns", on("KI20").cold(0, 1, 3, false), 1);
     }
 
     private static void seeds() {
-        promise = 25;
+        about("promise 25");
         ChalkTramps x = on("KG2abcdI22");
         due("0 at first", x.seed(Long.MIN_VALUE), 0);
         due("what it was", x.seed(Long.MAX_VALUE), Long.MIN_VALUE);
         due("what it was", x.seed(0), Long.MAX_VALUE);
-        promise = 26;
+        about("promise 26");
         due("m 0", x.years(0), OUTSIDE);
         due("m 31", x.years(31), OUTSIDE);
         due("m -1", x.years(-1), OUTSIDE);
@@ -645,7 +605,7 @@ public final class PromisesTest {
         String camp = seen(x);
         x.years(30);
         long after = x.seed(0);
-        due("nothing changes but the seed", seen(x).equals(camp) ? 1 : 0, 1);
+        due("nothing changes but the seed", seen(x).equals(camp));
         long by = 0;
         for (int i = 0; i < 30; i++) by = by * 6364136223846793005L + 1442695040888963407L;
         due("the seed goes on", after, by);
@@ -686,7 +646,7 @@ public final class PromisesTest {
     }
 
     private static void keeping() {
-        promise = 27;
+        about("promise 27");
         ChalkTramps x = on("KG2abcdI22I51");
         due("keep(0)", x.keep(0), 0);
         due("keep(2)", x.keep(2), UNKNOWN);
@@ -697,7 +657,7 @@ public final class PromisesTest {
         due("the row stays", x.count(8), 3);
         nights(x, 1);
         x.wash(0);
-        promise = 28;
+        about("promise 28");
         due("again(2)", x.again(2), UNKNOWN);
         due("again(-1)", x.again(-1), UNKNOWN);
         due("again(1)", x.again(1), 2);
@@ -723,7 +683,7 @@ public final class PromisesTest {
     }
 
     private static void counting() {
-        promise = 29;
+        about("promise 29");
         ChalkTramps x = on("KG2abcdG7fI22I50I20");
         nights(x, 5);
         x.walk(1, 4);
@@ -758,7 +718,6 @@ public final class PromisesTest {
         seeds();
         keeping();
         counting();
-        System.out.println(wrong == 0 ? "all answers are as due" : wrong + " answers are not as due");
-        if (wrong != 0) System.exit(1);
+        end();
     }
 }
