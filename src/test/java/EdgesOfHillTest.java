@@ -120,6 +120,22 @@ public final class EdgesOfHillTest extends Checks {
         for (long no : new long[] {Long.MIN_VALUE, -1, 1000, Long.MAX_VALUE}) due("judge, row " + no, x.judge(1, no), OUTSIDE);
     }
 
+    @Sentence("STATE (as told), FULL.")
+    static void stateAndFullAreRefused() {
+        due("hill() of a fault", busy().hill(), STATE);
+        due("a hummock walks", busy().walk(0, 1), STATE);
+        due("one walks twice", busy().walk(2, 5), STATE);
+        due("one walks to where it is", busy().walk(3, 9), STATE);
+        due("one walks too far", busy().walk(1, 5), STATE);
+        due("told from afar", busy().tell(1, 3), STATE);
+        due("a hummock is told", busy().tell(1, 0), STATE);
+        due("a hummock is washed", busy().wash(0), STATE);
+        due("undo() of no act", busyWithoutActs().undo(), STATE);
+        due("again() of an empty slot", busy().again(1), STATE);
+        due("the 49th letter", busyWithFullText().write('K'), FULL);
+        due("the seventh that one knew", busyWithSixKnew().knew(1, 1), FULL);
+    }
+
     @Sentence("What is refused changes nothing.")
     static void whatIsRefusedChangesNothing() {
         unchanged("write(256)", Checks::busy, x -> x.write(256), OUTSIDE);
@@ -615,6 +631,9 @@ public final class EdgesOfHillTest extends Checks {
         two.walk(2, 3);
         two.night();
         due("the first of two tellers", two.tramp(0, 2), 1);
+        ChalkTramps first = on("KG2abcdI23I22");
+        first.night();
+        due("then: what a later number took in this night", first.tramp(0, 2), 15);
         due("the second of two tellers", two.tramp(1, 2), 1);
     }
 
@@ -707,7 +726,11 @@ public final class EdgesOfHillTest extends Checks {
         x.walk(0, 3);
         nights(x, 14);
         due("14 acts of 15", x.count(8), 14);
-        for (int left = 13; left >= 0; left--) due("undone", x.undo(), left);
+        for (int left = 13; left >= 0; left--) {
+            due("undone", x.undo(), left);
+            due("the night then", x.count(3), left);
+            due("the other one is white by as many then", x.tramp(1, 3), Math.min(9, left));
+        }
         due("of 15 the first one is forgotten", x.tramp(0, 0), 3);
         due("no act is left", x.undo(), STATE);
         ChalkTramps each = on("KG2abI20I20");
@@ -726,5 +749,20 @@ public final class EdgesOfHillTest extends Checks {
         due("then the walk", each.tramp(1, 0), 2);
         each.undo();
         due("then the bath", each.tramp(1, 2), 1);
+        ChalkTramps late = on("KI20I20I20");
+        nights(late, 12);
+        for (int tramp = 0; tramp < 3; tramp++) late.walk(tramp, 3);
+        int[] walked = {3, 1, 0};
+        for (int i = 0; i < 3; i++) {
+            due("of 15 acts the last ones are not forgotten", late.undo(), 13 - i);
+            due("who had walked ahead of them", late.count(5), walked[i]);
+        }
+        ChalkTramps many = on("KI20I30I40I00");
+        for (int tramp = 0; tramp < 4; tramp++) many.walk(tramp, 1);
+        many.night();
+        many.undo();
+        due("who had walked, all of them", many.count(5), 15);
+        many.undo();
+        due("but for the last", many.count(5), 7);
     }
 }

@@ -75,6 +75,11 @@ public final class EdgesOfNightsTest extends Checks {
         due("what is nowhere", x.soon(0, 32, 0), NONE);
         x.night();
         due("what it knows: no night", x.soon(1, 1, 0), 0);
+        // The quick one takes f and c at 6, and b and d at 0, by then at a speed of 2: behind some 120 other camps of three nights.
+        ChalkTramps many = on("KG3eG5ebG6fcaeG0ecbdI23I11I43I31");
+        many.night();
+        due("four nights among many ways", many.soon(3, 40, 0), 4);
+        due("four nights among many ways, where to", many.soon(3, 40, 1), 6310);
         due("some of it: the fewest", x.soon(1, 3, 0), 1);
     }
 
@@ -137,6 +142,14 @@ public final class EdgesOfNightsTest extends Checks {
         due("three kilns that do so together", on("KG0abG1bcG2ca").beneath(0), 0);
         due("far apart", on("KG0abcdG1da").beneath(0), 0);
         due("four of four", on("KG0abcdG1abcdG2abcdG3abcd").beneath(0), 1);
+        ChalkTramps anew = on("KG0af");
+        due("a above f", anew.beneath(1), 16);
+        text(anew, "KG0fa");
+        anew.hill();
+        due("a hill made anew: f above a", anew.beneath(1), 61);
+        text(anew, "KG0af");
+        anew.hill();
+        due("and once more: a above f", anew.beneath(1), 16);
     }
 
     @Sentence("the first (figures 1 to 6, the first one topmost; the least; no LAYERS: 0); NONE.")
@@ -248,6 +261,10 @@ public final class EdgesOfNightsTest extends Checks {
         four.knew(4, 1);
         due("all four: quick, two nights and three; no plain one in four", four.lay(0), 2);
         due("all four, the first", four.lay(1), 102);
+        ChalkTramps two = on("KG0abcd");
+        two.knew(1, 0);
+        two.knew(4, 0);
+        due("all that it did not know counts: no night", two.lay(0), 2);
         ChalkTramps one = on("KG0abG1cd");
         one.knew(1, 1);
         one.knew(3, 1);
@@ -368,6 +385,7 @@ public final class EdgesOfNightsTest extends Checks {
         due("all pairs, the first", on("KI20I30").rests(0, 1, 1), 0);
         // The teller has more beside the quick one, who knows three layers, and the quick one has more away from it.
         ChalkTramps x = on("KG4bG2dfcI33I21");
+        due("ahead of two nights there are some", x.rests(0, 1, 0) > 0);
         nights(x, 2);
         due("no pair", x.rests(0, 1, 0), 0);
         due("no pair, the first", x.rests(0, 1, 1), NONE);
@@ -547,6 +565,10 @@ public final class EdgesOfNightsTest extends Checks {
         due("walked to its own place can not be", years(on("KG2abI20"), 2, 48), 1);
         due("walked twice can not be", years(on("KG0abG2cdI42"), 2, 0, 48), 2);
         due("walked, a night, walked can", years(on("KG0abG2cdI42"), 2, 48, 0, 48), 0 + 2 + 2 + 4);
+        ChalkTramps walked = on("KG0abI32");
+        walked.walk(0, 1);
+        due("one that has walked already can not", years(walked, 0, 48), 0);
+        due("behind a night it can", years(walked, 48, 0, 48), 2);
         due("a tramp that is not there: walked", years(on("KG2abI20"), 32, 48), 1);
         ChalkTramps x = on("KG2abI22I20I32");
         nights(x, 5);
@@ -588,6 +610,12 @@ public final class EdgesOfNightsTest extends Checks {
             due("the row is empty", x.count(8), 0);
             due("nothing to undo", x.undo(), STATE);
         }
+        ChalkTramps all = on("KI20I30I40I00");
+        for (int tramp = 0; tramp < 4; tramp++) all.walk(tramp, 1);
+        all.keep(0);
+        all.night();
+        all.again(0);
+        due("all that have walked", all.count(5), 15);
         due("slot -1", on("KI20").keep(-1), UNKNOWN);
         due("slot 2", on("KI20").keep(2), UNKNOWN);
         due("again -1", on("KI20").again(-1), UNKNOWN);

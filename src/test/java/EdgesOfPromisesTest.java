@@ -92,6 +92,7 @@ public final class EdgesOfPromisesTest extends Checks {
         due("what was kept is gone: 0", x.again(0), STATE);
         due("what was kept is gone: 1", x.again(1), STATE);
         due("KNEW stays", x.count(9), 2);
+        due("KNEW stays: a is not in this hill", x.lay(0), 0);
         due("THE SEED stays", x.seed(0), 12345);
         due("THE TEXT stays", x.count(0), 10);
         due("the kiln", x.kiln(0, 3), 6);
@@ -317,6 +318,7 @@ public final class EdgesOfPromisesTest extends Checks {
         due("layers = 0, where to", x.soon(0, 0, 1), 0);
         due("layers = 63, how many", x.soon(0, 63, 0), 2);
         due("layers = 63, where to", x.soon(0, 63, 1), 56);
+        due("layers = 0 behind another answer, where to", x.soon(0, 0, 1), 0);
         due("layers = 63 by a plain one, how many", x.soon(1, 63, 0), NONE);
         due("layers = 63 by a plain one, where to", x.soon(1, 63, 1), NONE);
         due("layers = -1", x.soon(0, -1, 0), OUTSIDE);
@@ -393,7 +395,7 @@ public final class EdgesOfPromisesTest extends Checks {
     static void p20Unknew() {
         ChalkTramps x = on("KG0a");
         due("none", x.unknew(), 0);
-        for (int i = 0; i < 6; i++) x.knew(2, i % 2);
+        for (int i = 0; i < 6; i++) x.knew(1, i % 2);
         due("knew it and did not", x.lay(0), 0);
         due("six", x.unknew(), 6);
         due("nothing", x.count(9), 0);
@@ -556,5 +558,8 @@ public final class EdgesOfPromisesTest extends Checks {
         ChalkTramps walked = on("KI20I30I40I00");
         for (int tramp = 0; tramp < 4; tramp++) walked.walk(tramp, 1);
         due("all have walked", walked.count(5), 15);
+        ChalkTramps apart = on("KG0aG1bG2cG3fI00I10I20I30");
+        apart.night();
+        due("each knows another layer", apart.count(6), 39);
     }
 }
