@@ -120,6 +120,10 @@ public final class EdgesOfNightsTest extends Checks {
         due("a teller hears one who stays where it is", x.soon(1, 15, 1), 2);
         due("another who could come does not", on("KG2aI52I33").soon(1, 1, 0), 1);
         due("all of these, not some", on("KG2abI20").soon(0, 3, 0), 2);
+        ChalkTramps twice = on("KG0efbaI62");
+        due("a and e: by 3 to 0", twice.soon(0, 17, 1), 30);
+        due("asked behind another question: b, e and f", twice.soon(0, 50, 1), 30);
+        due("once more: a and e", twice.soon(0, 17, 1), 30);
     }
 
     @Sentence("BENEATH: orders of LAYERS that are in any KILN")
