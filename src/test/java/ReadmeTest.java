@@ -60,7 +60,6 @@ public final class ReadmeTest extends Checks {
 
     private static void examples(String page) throws IOException, InterruptedException {
         TreeSet<String> called = new TreeSet<>();
-        called.add("write");
         String program = program(blocks(page, "java"), called);
         Path classes = Files.createTempDirectory("readme");
         Path source = classes.resolve("Examples.java");
